@@ -14,7 +14,6 @@ public final class ApplesFall {
     private static final String FIRST_TEXT = "falls 1 + ripe < 20 ; ripens 1 ; takes 1 ;";
 
     private final Lore lore = new Lore();
-    private final Lore keptLore = new Lore();
     private final Orchard now = new Orchard();
     private final Orchard kept = new Orchard();
     private final Orchard thought = new Orchard();
@@ -25,6 +24,7 @@ public final class ApplesFall {
     private final Reader reader;
     private final Ways ways;
     private int texts = 1;
+    private int keptLaws = 0;
     private boolean hasImage = false;
 
     public ApplesFall() {
@@ -340,7 +340,7 @@ public final class ApplesFall {
     }
 
     public int image() {
-        keptLore.become(lore);
+        keptLaws = lore.many;
         kept.become(now);
         hasImage = true;
         return kept.many;
@@ -350,7 +350,7 @@ public final class ApplesFall {
         if (!hasImage) {
             return STATE;
         }
-        lore.become(keptLore);
+        lore.leave(keptLaws);
         now.become(kept);
         Rule rule = ruleAt(now.rule);
         if (rule != null) {
@@ -681,10 +681,9 @@ public final class ApplesFall {
             return many - 1;
         }
 
-        void become(Lore other) {
-            System.arraycopy(other.from, 0, from, 0, LAWS);
-            System.arraycopy(other.fact, 0, fact, 0, LAWS);
-            many = other.many;
+        /** Laws come behind others only, so the first ones are as they were. */
+        void leave(int first) {
+            many = first;
         }
 
         int next(int set, int without) {
@@ -1127,7 +1126,7 @@ public final class ApplesFall {
             fault = NONE;
             at = 0;
             advance();
-            for (int part = FALLS; part <= TAKES; part++) {
+            for (int part = FALLS; part <= TAKES && fault == NONE; part++) {
                 expect(KEYS + part);
                 readEither(0);
                 expect(';');

@@ -248,6 +248,12 @@ public final class ModelRuns {
             case 18: {
                 int s = any(0, 3, wild);
                 due("film(" + s + ", " + h + ", " + n + ")", real.film(s, h, n), model.film(s, h, n));
+                if (!wild && random.nextBoolean()) {
+                    change(s, h);
+                }
+                for (int what = 0; what < 8; what++) {
+                    due("tells(" + s + ", " + h + ", " + what + ")", real.tells(s, h, what), model.tells(s, h, what));
+                }
                 break;
             }
             case 19: {
@@ -279,6 +285,19 @@ public final class ModelRuns {
             }
             default:
                 host(which, wild);
+        }
+    }
+
+    /** Something small, so that what was told is almost so still. */
+    private void change(int s, int h) {
+        if (random.nextBoolean()) {
+            int what = 1 + random.nextInt(4);
+            int v = random.nextInt(10);
+            due("set(" + what + ", " + h + ", " + v + ")", real.set(what, h, v), model.set(what, h, v));
+        } else {
+            int i = random.nextInt(20);
+            int v = random.nextInt(51);
+            due("cell(" + s + ", " + i + ", " + v + ")", real.cell(s, i, v), model.cell(s, i, v));
         }
     }
 

@@ -161,6 +161,8 @@ public final class Promises {
             due("what it is now, what " + what, x.told(1, what), 0);
             due("the other HOUSE, what " + what, x.told(0, what), what == 1 ? 7 : first[what]);
         }
+        due("set DAY of a HOUSE", x.set(0, 1, 6), 4);
+        due("told DAY of a HOUSE", x.told(1, 0), 6);
         due("set what 5", x.set(5, 0, 0), -2);
         due("set what -1", x.set(-1, 0, 0), -2);
         due("set wild", x.set(MAX, MIN, MAX), -2);
@@ -276,6 +278,10 @@ public final class Promises {
             rule(x, "falls -5;ripens 0;takes 1;");
             due("FALL at least, KIND " + kind, x.asks(0, 0, 4), dueLeast[kind]);
         }
+        ApplesFall d = new ApplesFall();
+        d.house(3, 0);
+        rule(d, "falls 1;ripens 0;takes 1;");
+        due("FALL of a DREAMER, NUMBER 0", d.asks(0, 0, 4), 0);
         ApplesFall g = new ApplesFall();
         g.house(5, 0);
         g.set(4, 0, 50);
@@ -315,7 +321,12 @@ public final class Promises {
         due("160 bytes", read(x, long160.toString()), 3);
         due("keys right behind numbers", read(x, "falls 1or 2and 3;ripens not 1;takes 1;"), 4);
         due("a fault between", read(x, "falls 1;ripens 1;takes ;"), -100 - 23);
-        due("TEXT 5", read(x, plain), 5);
+        due("TEXT 5", read(x, "falls 7;ripens 5;takes 0;"), 5);
+        x.house(0, 0);
+        x.force(5);
+        due("TEXT 5 falls", x.asks(0, 0, 4), 7);
+        due("TEXT 5 takes", x.asks(0, 0, 3), 0);
+        due("TEXT 5 ripens", x.run(0, 1, 2), 5);
         due("no more room", read(x, plain), -4);
         due("THE TAPE stays", x.count(4), plain.length());
         due("TEXTS", x.count(3), 6);
@@ -365,7 +376,21 @@ public final class Promises {
         fault("falls not not not -(-1);ripens 1;takes 1;", 20);
         fault("falls not not not not not 1<(1);ripens 1;takes 1;", 28);
         fault("falls ((((1*-(1)))));ripens 1;takes 1;", 13);
-        fault("\u00ff", 0);
+        fault("fact 1;ripens 1;takes 1;", 0);
+        fault("falls falls;ripens 1;takes 1;", 6);
+        fault("falls factz;ripens 1;takes 1;", 6);
+        fault("falls afact;ripens 1;takes 1;", 6);
+        fault("falls 1a;ripens 1;takes 1;", 7);
+        for (int b = 0; b < 256; b++) {
+            if (b != 32 && b != 10) {
+                fault("falls 1;ripens 1;takes 1;" + (char) b, 25);
+                fault((char) b + "falls 1;ripens 1;takes 1;", 0);
+            }
+            boolean begins = b >= '0' && b <= '9' || "()-".indexOf(b) >= 0 || b == 32 || b == 10;
+            if (!begins) {
+                fault("falls " + (char) b + " 1;ripens 1;takes 1;", 6);
+            }
+        }
     }
 
     // Promise 7, what an E comes to
@@ -611,6 +636,13 @@ public final class Promises {
         x.set(0, 0, 990);
         rule(x, "falls 1;ripens day=1005;takes 1;");
         due("DAY may pass 999 in thought", x.run(0, 40, 2), 1);
+        ApplesFall y = new ApplesFall();
+        y.learns(2, 2);
+        y.house(0, 0);
+        due("KNOWS nothing behind 40 DAYS", y.run(0, 40, 0), 0);
+        due("NEVER anything", y.told(0, 10), 4095);
+        y.set(2, 0, 2);
+        due("KNOWS behind a DAY", y.run(0, 1, 0), 6);
     }
 
     // Promise 14
@@ -738,6 +770,10 @@ public final class Promises {
         x.set(4, 0, 17);
         due("otherwise", x.tells(0, 0, 0), 2);
         due("RIPE, whatever it is now", x.tells(0, 0, 3), 17);
+        due("RIPE of another HOUSE", x.tells(0, 2, 3), 0);
+        due("RIPE of this one again", x.tells(0, 0, 3), 17);
+        due("least RIPE of another HOUSE", x.tells(0, 2, 4), -1);
+        due("least RIPE of this one again", x.tells(0, 0, 4), 0);
         due("HOUSES by what they are now", x.tells(0, 0, 7), 0);
         due("nothing happened", x.told(0, 4), 17);
         x.cell(0, 0, 49);
@@ -772,6 +808,7 @@ public final class Promises {
         read(g, "falls 2;ripens 0;takes 1;");
         read(g, "falls 1;ripens 0;takes 1;");
         read(g, "falls 2;ripens 5;takes 0;");
+        read(g, "falls 9;ripens 5;takes 0;");
         g.force(1);
         row(g, 3, 0, 42);
         due("of a GIRL: RIPE, the least", g.tells(3, 0, 4), 51);
@@ -796,7 +833,7 @@ public final class Promises {
         due("no days: RIPE", g.tells(3, 0, 3), 100);
         due("no days: least RIPE", g.tells(3, 0, 4), 0);
         due("no days: FACTS", g.tells(3, 0, 5), 4095);
-        due("no days: TEXTS", g.tells(3, 0, 6), 15);
+        due("no days: TEXTS", g.tells(3, 0, 6), 31);
         due("no days: HOUSES", g.tells(3, 0, 7), 1);
     }
 
@@ -843,6 +880,22 @@ public final class Promises {
         due("film(3, 4, 20)", x.film(3, 4, 20), 20);
         due("a row of 20", x.cell(3, 19, 1), 1);
         due("a row of bytes", x.copy(3, 0, 0, 0, 1), 1);
+        // Falls by the DAY in thought: fact 1 on day 5, fact 2 on day 6, fact 3 on day 7.
+        ApplesFall d = new ApplesFall();
+        d.learns(1, 1);
+        d.learns(2, 2);
+        d.learns(4, 3);
+        d.house(0, 0);
+        d.set(0, 0, 5);
+        d.set(2, 0, 1);
+        rule(d, "falls day;ripens 0;takes 1;");
+        row(d, 0, 1, 45, 39, 32, 32);
+        due("tells by DAY", d.tells(0, 0, 0), -1);
+        d.film(1, 0, 4);
+        d.sheet(0, 1, 0);
+        due("film by DAY", d.tells(1, 0, 0), -1);
+        d.set(0, 0, 6);
+        due("film by another DAY", d.tells(1, 0, 0), 0);
         due("film(4, 0, 0)", x.film(4, 0, 0), -2);
         due("film(-1, 0, 0)", x.film(-1, 0, 0), -2);
         due("film(3, 5, 0)", x.film(3, 5, 0), -2);
@@ -901,6 +954,35 @@ public final class Promises {
         due("drawn, ten days", d.drawn(77), 10);
         d.house(1, 0);
         due("drawn, all together", d.drawn(MIN), 20);
+        // A DREAMER understands on days 0, 2, 4, 6, 8: no eleventh day.
+        ApplesFall e = new ApplesFall();
+        for (int f = 0; f < 10; f++) {
+            e.learns(f == 0 ? 0 : 1 << f - 1, f);
+        }
+        e.house(3, 0);
+        rule(e, "falls 2;ripens 1;takes 0;");
+        due("drawn, not eleven days", e.drawn(-9), 5);
+        drawnOnTheLastDay();
+    }
+
+    /** Ahead of the last day alone a FACT is taken: which, by the tenth z of each seed. */
+    private static void drawnOnTheLastDay() {
+        for (int seed = -20; seed < 20; seed++) {
+            int z = seed;
+            for (int i = 0; i < 10; i++) {
+                z = z * 1103515245 + 12345;
+            }
+            int fact = (z >>> 17) % 12;
+            int who = (z >>> 9) % 2;
+            for (int h = 0; h < 2; h++) {
+                ApplesFall x = new ApplesFall();
+                x.learns(1 << fact, fact == 11 ? 10 : 11);
+                x.house(0, h);
+                x.house(0, 1 - h);
+                rule(x, "falls 7*number;ripens 1;takes day=9;");
+                due("drawn(" + seed + "), the last day", x.drawn(seed), h == who ? 0 : 7);
+            }
+        }
     }
 
     // Promise 20
@@ -941,6 +1023,8 @@ public final class Promises {
         due("part -1", x.chance(0, 1, 0, -1), no);
         due("part 2", x.chance(0, 1, 0, 2), no);
         due("wild", x.chance(MIN, MIN, MAX, MAX), no);
+        due("m 1, above", x.chance(100, 1, 0, 0), 1);
+        due("m 1, below", x.chance(100, 1, 0, 1), 1);
         due("no HOUSES, above", new ApplesFall().chance(0, 20, 1, 0), 0);
         due("no HOUSES, below", new ApplesFall().chance(0, 20, 1, 1), 1);
     }
@@ -1005,8 +1089,11 @@ public final class Promises {
         }
         due("a later image()", x.image(), 1);
         x.set(0, 0, 0);
+        x.learns(1, 1);
         x.back();
         due("back() to the later one", x.told(0, 0), 8);
+        due("IDLE of what LAWS there are", x.laws(0), 0);
+        due("ROOTS of what LAWS there are", x.laws(1), 4095 - 2 - 16);
         due("with its LAWS", x.count(1), 2);
         due("with its RULE", x.count(5), 2);
     }
@@ -1111,7 +1198,12 @@ public final class Promises {
         due("copy", x.copy(0, 0, 1, 0, 2), 2);
         due("it came", x.tells(1, 0, 0), -1);
         due("where it came from stays", x.tells(0, 0, 0), 2);
-        // Over itself, as they were: 1, 2, 3 -> 1, 1, 2, and 1, 1, 2 back down.
+        x.sheet(1, 2, 40);
+        x.sheet(2, 2, 40);
+        due("all 40", x.copy(1, 0, 2, 0, 40), 40);
+        due("the last of 40", x.copy(1, 39, 2, 39, 1), 1);
+        due("41", x.copy(1, 0, 2, 0, 41), -12);
+        // Over itself, as they were: 50, 49, 48 -> 50, 50, 49, 48, and down again.
         row(x, 0, 0, 50, 49, 48, 0);
         due("copy up over itself", x.copy(0, 0, 0, 1, 3), 3);
         x.learns(0, 5);
