@@ -871,31 +871,42 @@ public final class ApplesFall {
             if (many < 0 || many >= HOUSES) {
                 return FULL;
             }
-            trees[many].begin(kind, number);
             many++;
+            Tree tree = at(many - 1);
+            if (tree != null) {
+                tree.begin(kind, number);
+            }
             return many - 1;
         }
 
         void become(Orchard other) {
-            for (int i = 0; i < HOUSES; i++) {
-                trees[i].become(other.trees[i]);
-            }
             many = other.many;
             day = other.day;
             rule = other.rule;
+            for (int i = 0; i < HOUSES; i++) {
+                Tree tree = at(i);
+                Tree like = other.at(i);
+                if (tree != null && like != null) {
+                    tree.become(like);
+                }
+            }
         }
 
         int apples() {
             int together = 0;
-            for (int i = 0; i < many && i < HOUSES; i++) {
-                together += trees[i].apples;
+            for (int i = 0; i < HOUSES; i++) {
+                Tree tree = at(i);
+                together += tree != null ? tree.apples : 0;
             }
             return together;
         }
 
         void pass(Ways ways) {
-            for (int i = 0; i < many && i < HOUSES; i++) {
-                ways.pass(trees[i], day);
+            for (int i = 0; i < HOUSES; i++) {
+                Tree tree = at(i);
+                if (tree != null) {
+                    ways.pass(tree, day);
+                }
             }
             day++;
         }

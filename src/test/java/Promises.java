@@ -1037,12 +1037,17 @@ public final class Promises {
         due("image() of nothing", y.image(), 0);
         y.house(0, 0);
         y.learns(0, 0);
+        y.set(2, 0, 5);
+        y.set(3, 0, 5);
+        y.set(4, 0, 5);
         due("back() to nothing", y.back(), 0);
         due("HOUSES that came go", y.count(0), 0);
         due("LAWS that came go", y.count(1), 0);
         y.house(3, 8);
         due("another HOUSE comes", y.told(0, 5), 3);
         due("with none KNOWN", y.told(0, 2), 0);
+        due("with 50 APPLES", y.told(0, 3), 50);
+        due("not RIPE", y.told(0, 4), 0);
 
         x = new ApplesFall();
         x.learns(1, 1);
