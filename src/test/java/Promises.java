@@ -661,6 +661,8 @@ public final class Promises {
         due("how many: none", x.asks(0, 4, 2), 0);
         x.set(2, 0, 4);
         due("FEWEST: the least of like ones", x.asks(0, 4, 1), 1);
+        x.set(2, 0, 2);
+        due("FEWEST: the least, below one that it KNOWS", x.asks(0, 2, 1), 1);
         x.set(2, 0, 16);
         due("FEWEST: fact 0 leads to 3, too", x.asks(0, 3, 1), 1);
         x.learns(128, 11);
