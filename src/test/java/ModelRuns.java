@@ -45,7 +45,7 @@ public final class ModelRuns {
         }
         if (random.nextInt(3) > 0) {
             text();
-            int t = real.count(3) - 1;
+            int t = model.count(3) - 1;
             due("force(" + t + ")", real.force(t), model.force(t));
         }
         while (calls < CALLS && wrong == 0) {
@@ -78,7 +78,7 @@ public final class ModelRuns {
     }
 
     private int aHouse(boolean wild) {
-        return any(0, Math.max(0, real.count(0) - (random.nextInt(20) == 0 ? 0 : 1)), wild);
+        return any(0, Math.max(0, model.count(0) - (random.nextInt(20) == 0 ? 0 : 1)), wild);
     }
 
     private void learns() {
@@ -147,11 +147,11 @@ public final class ModelRuns {
         for (int i = 0; i < t.length(); i++) {
             int c = t.charAt(i);
             int got = real.feed(c);
+            calls++;
             if (got != model.feed(c)) {
                 due("feed(" + c + ")", got, 0);
             }
         }
-        calls += t.length();
         log.append("text: ").append(t).append('\n');
         due("text()", real.text(), model.text());
     }
@@ -197,7 +197,7 @@ public final class ModelRuns {
                 }
                 break;
             case 7: {
-                int t = any(0, real.count(3), wild);
+                int t = any(0, model.count(3), wild);
                 due("force(" + t + ")", real.force(t), model.force(t));
                 break;
             }
