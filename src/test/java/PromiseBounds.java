@@ -103,7 +103,9 @@ public final class PromiseBounds {
             int w = what;
             Sentences.range("set(" + w + ", 0, v)", 0, most[what], BAD, v -> Given.house(0, 3).set(w, 0, v));
         }
-        Sentences.range("set(what, 0, 7)", 0, 4, BAD, what -> Given.house(0, 0).set(what, 0, 7));
+        for (int v : new int[] {0, 7}) {
+            Sentences.range("set(what, 0, " + v + ")", 0, 4, BAD, what -> Given.house(0, 0).set(what, 0, v));
+        }
         for (int what = 1; what < 5; what++) {
             for (int of : new int[] {MIN, -1, 1, 4, 5, MAX}) {
                 due("set(" + what + ", " + of + ", 7)", Given.house(0, 0).set(what, of, 7), BAD);
@@ -578,6 +580,11 @@ public final class PromiseBounds {
         due("below 18 now: of two DAYS", x.tells(0, 0, 3), 18);
         due("the least", x.tells(0, 0, 4), 0);
         due("all, of no DAYS", x.tells(1, 0, 3), 100);
+        x.house(2, 0);
+        due("all the same of another HOUSE", x.tells(1, 1, 3), 100);
+        due("none of another HOUSE", x.tells(0, 1, 3), 0);
+        due("the least of another HOUSE: none", x.tells(0, 1, 4), NONE);
+        due("the least, as it was", x.tells(0, 0, 4), 0);
         x.sheet(2, 0, 1);
         due("none", x.tells(2, 0, 3), 0);
         due("the least of none", x.tells(2, 0, 4), NONE);
@@ -589,8 +596,10 @@ public final class PromiseBounds {
         due("none", x.tells(2, 0, 6), 0);
         says("HOUSES (7).");
         due("HOUSE 0", x.tells(0, 0, 7), 1);
-        for (int i = 1; i < 5; i++) {
-            x.house(0, 0);
+        x = Given.houses(5);
+        Given.chain(x, 2);
+        Given.row(x, 0, 0, 49, 48, 48);
+        for (int i = 0; i < 5; i++) {
             x.set(2, i, 1);
         }
         due("all five, asked of the last", x.tells(0, 4, 7), 31);
@@ -749,15 +758,22 @@ public final class PromiseBounds {
             x.set(3, i, 99);
         }
         for (int i = 0; i < 10; i++) {
-            x.learns(0, i);
+            x.learns(i < 2 ? 1 << i : 0, i);
         }
+        due("IDLE, ahead of it", x.laws(0), 3);
         x.set(0, 0, 999);
         due("back to nothing", x.back(), 0);
         for (int what = 0; what < 3; what++) {
             due("count(" + what + ")", x.count(what), 0);
         }
         due("DAY", x.told(0, 0), 0);
+        due("IDLE, no LAWS", x.laws(0), 0);
+        due("ROOTS, no LAWS", x.laws(1), 4095);
+        due("SAME, no LAWS", x.laws(2), 0);
+        due("no LAW 0", x.laws(10), BAD);
         due("room for LAWS", x.learns(3, 3), 0);
+        due("IDLE, one LAW", x.laws(0), 0);
+        due("ROOTS, one LAW", x.laws(1), 4095 - 8);
         due("what FOLLOWS by the new one alone", x.follows(3, 1), 11);
         due("room for HOUSES", x.house(1, 1), 0);
         due("its KIND", x.told(0, 5), 1);
