@@ -1100,6 +1100,13 @@ public final class TermsBounds {
         Given.rule(x, "known=0", "0", "1");
         due("less than else", x.best(0, 1, 0), NONE);
         due("the BASKET, as so", x.best(0, 1, 1), 1);
+        // Were there a FACT 12 or -1, to know that one, too, would let more fall.
+        x = Given.house(0, 0);
+        x.learns(1, 11);
+        x.set(2, 0, 2047);
+        Given.rule(x, "known", "0", "1");
+        due("no FACT behind 11, none below 0", x.best(0, 1, 0), NONE);
+        due("the BASKET, as so", x.best(0, 1, 1), 11);
 
         says("WHOM (a FACT, n): the HOUSE that doesn't KNOW it, and TAKES it, told which BASKETS of all, together, are "
             + "most behind n DAYS, if more than else; of like ones the first; NONE.");
