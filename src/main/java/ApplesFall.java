@@ -1163,7 +1163,7 @@ public final class ApplesFall {
             advance();
         }
 
-        // "open" is how many ( , not and - are open: it ends the recursion.
+        // "open" is how many ( , not and - are open: it ends the recursion, which goes through a ( alone.
 
         private void readEither(int open) {
             readBoth(open);
@@ -1184,13 +1184,9 @@ public final class ApplesFall {
         }
 
         private void readNot(int open) {
-            if (token != NOT_KEY) {
-                readCompared(open);
-            } else if (open >= OPEN) {
-                fail();
-            } else {
-                advance();
-                readNot(open + 1);
+            int nots = readOpen(NOT_KEY, open);
+            readCompared(open + nots);
+            for (int i = 0; i < nots; i++) {
                 rule.add(Rule.NOT);
             }
         }
@@ -1225,20 +1221,34 @@ public final class ApplesFall {
         }
 
         private void readOne(int open) {
+            int minuses = readOpen('-', open);
+            int within = open + minuses;
             if (token == NUMBER || token == NAME) {
                 rule.add(value);
                 advance();
-            } else if (token != '-' && token != '(' || open >= OPEN) {
-                fail();
-            } else if (token == '-') {
+            } else if (token == '(' && within < OPEN) {
                 advance();
-                readOne(open + 1);
-                rule.add(Rule.NEGATE);
-            } else {
-                advance();
-                readEither(open + 1);
+                readEither(within + 1);
                 expect(')');
+            } else {
+                fail();
             }
+            for (int i = 0; i < minuses; i++) {
+                rule.add(Rule.NEGATE);
+            }
+        }
+
+        /** How many not or - stand here one behind the other: all are open till what comes behind them ends. */
+        private int readOpen(int wanted, int open) {
+            int many = 0;
+            while (open + many < OPEN && token == wanted && fault == NONE) {
+                advance();
+                many++;
+            }
+            if (token == wanted) {
+                fail();
+            }
+            return many;
         }
 
         /** Behind a fault the token stays, so that all that waits for it ends. */

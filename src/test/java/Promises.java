@@ -376,6 +376,14 @@ public final class Promises {
         fault("falls not not not -(-1);ripens 1;takes 1;", 20);
         fault("falls not not not not not 1<(1);ripens 1;takes 1;", 28);
         fault("falls ((((1*-(1)))));ripens 1;takes 1;", 13);
+        fault("falls not not - - - -1;ripens 1;takes 1;", 20);
+        fault("falls -(not -(--1));ripens 1;takes 1;", 14);
+        fault("falls -not 1;ripens 1;takes 1;", 7);
+        fault("falls not - - - -;ripens 1;takes 1;", 17);
+        fault("falls not not;ripens 1;takes 1;", 13);
+        fault("falls not", 9);
+        fault("falls --", 8);
+        fault("falls -(", 8);
         fault("fact 1;ripens 1;takes 1;", 0);
         fault("falls falls;ripens 1;takes 1;", 6);
         fault("falls factz;ripens 1;takes 1;", 6);
@@ -435,6 +443,12 @@ public final class Promises {
         comesTo("(((((9)))))+(((((8)))))", 17);
         comesTo("-----1*-----1", 1);
         comesTo("not not not not not 0 and 1", 1);
+        comesTo("not not - - -7", 1);
+        comesTo("not -0 + -(not 0) * 5", 0);
+        comesTo("not -(-0 + 1 - -1)", 0);
+        comesTo("not(not(-5 + 5))", 0);
+        comesTo("not not 3 or not not 0", 1);
+        comesTo("9 - -(-(-2)) * -3", 3);
         // 2048 * 1024 * 1024 is 2 to the 31st: wraps to below 0; and once more so, to 0.
         comesTo("2048*1024*1024<0", 1);
         comesTo("2048*1024*1024*2+5", 5);
