@@ -1238,15 +1238,12 @@ public final class ApplesFall {
             }
         }
 
-        /** How many not or - stand here one behind the other: all are open till what comes behind them ends. */
+        /** How many not or - stand here one behind the other; one too many stays, and no ONE begins with it. */
         private int readOpen(int wanted, int open) {
             int many = 0;
-            while (open + many < OPEN && token == wanted && fault == NONE) {
+            while (open + many < OPEN && token == wanted) {
                 advance();
                 many++;
-            }
-            if (token == wanted) {
-                fail();
             }
             return many;
         }

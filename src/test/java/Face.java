@@ -21,6 +21,7 @@ public final class Face {
     private static final String[] RULED_OUT = {"throw", "throws", "try", "catch", "finally", "synchronized", "assert",
         "import", "package", "equals", "hashCode", "toString", "Object", "Random", "System.currentTimeMillis",
         "System.nanoTime", "Thread", "double", "float"};
+    private static final Set<String> LIBRARY = Set.of("Math.max", "Math.min", "Integer.bitCount", "System.arraycopy");
     private static int wrong = 0;
 
     private static void must(boolean holds, String what) {
@@ -35,7 +36,15 @@ public final class Face {
         for (Class<?> inside : ApplesFall.class.getDeclaredClasses()) {
             inside(inside);
         }
-        language(Files.readString(Path.of(args.length > 0 ? args[0] : "src/main/java/ApplesFall.java")));
+        String source = Files.readString(Path.of(args.length > 0 ? args[0] : "src/main/java/ApplesFall.java"));
+        language(source);
+        recursion(source);
+        Path doc = Path.of("../shared/DOC.md");
+        if (Files.exists(doc)) {
+            document(source, Files.readString(doc));
+        } else {
+            System.out.println("no document at " + doc + ": the face isn't held against it");
+        }
         System.out.println(wrong == 0 ? "the face is as told" : wrong + " things are not as told");
         if (wrong != 0) {
             System.exit(1);
@@ -74,7 +83,49 @@ public final class Face {
         }
         must(constants.equals(Set.of("int NONE", "int BAD", "int STATE", "int FULL", "long NO")),
             "constants are " + constants);
+        must(ApplesFall.NONE == -1 && ApplesFall.BAD == -2 && ApplesFall.STATE == -3 && ApplesFall.FULL == -4
+            && ApplesFall.NO == -4611686018427387904L, "the constants' values");
         must(c.getDeclaredClasses().length <= 11, "more than twelve classes");
+    }
+
+    /** Each constant with its value and each call with its parameters stand in the file as in the document, under its headings. */
+    private static void document(String source, String doc) {
+        String face = doc.substring(doc.indexOf("```java"), doc.indexOf("```", doc.indexOf("```java") + 7));
+        int members = 0;
+        Matcher m = Pattern.compile("(?m)^ +(public [^;]*);$").matcher(face);
+        while (m.find()) {
+            members++;
+            String end = m.group(1).endsWith(")") ? " {\n" : ";\n";
+            must(source.contains("\n    " + m.group(1) + end), "the file doesn't say " + m.group(1));
+        }
+        must(members == METHODS.length + 3, "the document's face has " + members + " members");
+        StringBuilder due = new StringBuilder();
+        Matcher ahead = Pattern.compile("Ahead of the calls (.*) the interface says: ---- (.*)\\.").matcher(doc);
+        while (ahead.find()) {
+            due.append("---- ").append(ahead.group(2)).append('\n');
+            due.append(ahead.group(1).replaceAll("`", "").replaceAll(", ", "\n")).append('\n');
+        }
+        StringBuilder there = new StringBuilder();
+        Matcher line = Pattern.compile("(?m)^    (?:// (---- .*)|public (?:int|long) (\\w+)\\(.*)$").matcher(source);
+        while (line.find() && there.length() < due.length()) {
+            there.append(line.group(1) != null ? line.group(1) : line.group(2)).append('\n');
+        }
+        must(due.length() > 0 && there.toString().equals(due.toString()), "the headings and calls are " + there);
+    }
+
+    /** What calls itself is private and static, and methods that call one another are private (rule 8). */
+    private static void recursion(String source) {
+        String code = source.replaceAll("(?s)/\\*.*?\\*/", "").replaceAll("//[^\n]*", "");
+        Pattern method = Pattern.compile("(?ms)^( {4}| {8})((?:\\w+ )*)(?:\\w+(?:\\[\\])? )(\\w+)\\([^\n]*\\) \\{$"
+            + "(.*?)^\\1\\}$");
+        Matcher m = method.matcher(code);
+        int methods = 0;
+        while (m.find()) {
+            methods++;
+            boolean calls = Pattern.compile("(?<![\\w.])" + m.group(3) + "\\(").matcher(m.group(4)).find();
+            must(!calls || m.group(2).equals("private static "), m.group(3) + " calls itself");
+        }
+        must(methods > METHODS.length, "only " + methods + " methods were seen");
     }
 
     private static String signature(Method m) {
@@ -108,6 +159,10 @@ public final class Face {
         for (String word : RULED_OUT) {
             Matcher m = Pattern.compile("\\b" + Pattern.quote(word) + "\\b").matcher(bare);
             must(!m.find(), "the file says " + word);
+        }
+        Matcher library = Pattern.compile("\\b(Math|Integer|Long|System|Arrays|List|String|StringBuilder)\\.\\w+").matcher(bare);
+        while (library.find()) {
+            must(LIBRARY.contains(library.group()), "the file calls " + library.group());
         }
         must(!bare.contains("->"), "a lambda");
         must(!bare.contains("::"), "a method reference");
