@@ -2,6 +2,7 @@ import java.io.IOException;
 import java.nio.file.Files;
 import java.nio.file.Path;
 import java.util.ArrayList;
+import java.util.Comparator;
 import java.util.List;
 import java.util.regex.Matcher;
 import java.util.regex.Pattern;
@@ -65,17 +66,18 @@ public final class Readme {
 
     /** The compilers and the example are run as typed; of the others, that what they run is there. */
     private static void commands(String readme) throws Exception {
+        Path top = beside();
         List<String> typed = new ArrayList<>();
         for (String block : blocks(readme, "sh")) {
             typed.addAll(List.of(block.split("\n")));
         }
         for (String line : typed) {
             if (line.equals("java -cp out Example")) {
-                must(blocks(readme, "text").equals(List.of(run(line))), "the example prints otherwise");
+                must(blocks(readme, "text").equals(List.of(run(top, line))), "the example prints otherwise");
             } else if (line.startsWith("java -cp out ")) {
-                must(Files.exists(Path.of("out", line.substring(13) + ".class")), "no class for: " + line);
+                must(Files.exists(top.resolve("out/" + line.substring(13) + ".class")), "no class for: " + line);
             } else if (line.startsWith("javac ")) {
-                run(line);
+                run(top, line);
             } else {
                 must(line.equals("bash .ci/run") && Files.isExecutable(Path.of(".ci/run")), "what is: " + line);
             }
@@ -88,10 +90,29 @@ public final class Readme {
             }
         }
         must(typed.contains("bash .ci/run"), "no command runs all tests");
+        clear(top.getParent());
     }
 
-    private static String run(String line) throws Exception {
-        Process process = new ProcessBuilder("bash", "-c", line).redirectErrorStream(true).start();
+    /** A top as the checkout's, with the same files and ../shared: so that nothing is left in the checkout. */
+    private static Path beside() throws IOException {
+        Path room = Files.createTempDirectory("readme");
+        Path top = Files.createDirectory(room.resolve("main"));
+        Files.createSymbolicLink(top.resolve("src"), Path.of("src").toRealPath());
+        Files.createSymbolicLink(room.resolve("shared"), Path.of("../shared").toRealPath());
+        return top;
+    }
+
+    private static void clear(Path room) throws IOException {
+        try (var all = Files.walk(room)) {
+            for (Path path : all.sorted(Comparator.reverseOrder()).toList()) {
+                Files.delete(path);
+            }
+        }
+    }
+
+    private static String run(Path top, String line) throws Exception {
+        ProcessBuilder typed = new ProcessBuilder("bash", "-c", line).directory(top.toFile());
+        Process process = typed.redirectErrorStream(true).start();
         String printed = new String(process.getInputStream().readAllBytes());
         must(process.waitFor() == 0, "this fails: " + line + "\n" + printed);
         return printed;
